@@ -1203,9 +1203,10 @@ public final class RowTypes {
         }
 
         int labelsOf(int node) {
+            gather(node);
             int all = 0;
             for (int label = 0; label < LABELS; label++) {
-                if (fieldOf(node, label) != NONE) {
+                if (types[label] != NONE) {
                     all |= 1 << label;
                 }
             }
@@ -1214,10 +1215,21 @@ public final class RowTypes {
 
         /** A row of the fields of a record, and another end. */
         int fieldsAhead(int node, int end) {
-            for (int label = 0; label < LABELS; label++) {
-                types[label] = fieldOf(node, label);
-            }
+            gather(node);
             return rowOfTypes(end);
+        }
+
+        /** Lays out the types of the fields of a record or a variant by their labels; its end. */
+        private int gather(int node) {
+            Arrays.fill(types, NONE);
+            int at = look(firstOf(node));
+            for (int k = 0; k < used && kindOf(at) == R_FIELD; k++) {
+                if (isLabel(bitsOf(at))) {
+                    types[bitsOf(at)] = firstOf(at);
+                }
+                at = look(secondOf(at));
+            }
+            return at;
         }
 
         private int rowOfTypes(int end) {
@@ -1255,16 +1267,16 @@ public final class RowTypes {
         }
 
         private void flattenRow(int node, Kept into) {
-            int about = labelsOf(node);
-            int end = endOf(node);
+            int about = 0;
+            int end = gather(node);
             if (kindOf(end) == R_OPEN) {
                 work.push(end);
-                about |= 256;
+                about = 256;
             }
             for (int label = LABELS - 1; label >= 0; label--) {
-                int type = fieldOf(node, label);
-                if (type != NONE) {
-                    work.push(type);
+                if (types[label] != NONE) {
+                    work.push(types[label]);
+                    about |= 1 << label;
                 }
             }
             into.add(kindOf(node), about);
