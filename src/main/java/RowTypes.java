@@ -115,7 +115,8 @@ public final class RowTypes {
         if (bad != NONE) {
             return -1 - bad;
         }
-        if (!finder.finds(TRIAL, definitions)) {
+        finder.begin(TRIAL, definitions);
+        if (finder.find(0, 0) == NONE) {
             return tellFault(finder.fault, finder.faultPlace, finder.faultLabel);
         }
         nodes.flatten(finder.typeAt(0), texts[TRIAL].kept);
@@ -133,7 +134,8 @@ public final class RowTypes {
         if (definitions >= MOST_DEFINITIONS) {
             return EIGHT_DEFINITIONS;
         }
-        if (!finder.finds(TRIAL, definitions)) {
+        finder.begin(TRIAL, definitions);
+        if (finder.find(0, 0) == NONE) {
             return tellFault(finder.fault, finder.faultPlace, finder.faultLabel);
         }
         nodes.flatten(finder.typeAt(0), texts[TRIAL].kept);
@@ -265,7 +267,7 @@ public final class RowTypes {
         if (bad != NONE) {
             return -1 - bad;
         }
-        return unifier.unify(nodes.load(kept), typeReader.result) == 0 ? 1 : 0;
+        return unifier.unify(nodes.load(kept, false), typeReader.result) == 0 ? 1 : 0;
     }
 
     public int above(int a, int b) {
@@ -286,7 +288,7 @@ public final class RowTypes {
             return NONE;
         }
         int node = loadAnew(first);
-        return answerUnified(node, nodes.load(other), node);
+        return answerUnified(node, nodes.load(other, false), node);
     }
 
     public int applies(int a, int b) {
@@ -296,7 +298,7 @@ public final class RowTypes {
             return NONE;
         }
         int node = loadAnew(first);
-        int from = nodes.load(other);
+        int from = nodes.load(other, false);
         int to = nodes.newVariable();
         return answerUnified(node, nodes.function(from, to), to);
     }
@@ -309,8 +311,8 @@ public final class RowTypes {
         if (texts[at].kindAt(place) == NONE) {
             return NOT_SO;
         }
-        finder.finds(at, definitions);
-        int found = answerFound(finder.typeAt(place));
+        finder.begin(at, definitions);
+        int found = finder.find(0, 0) == NONE ? NONE : answerFound(finder.typeAt(place));
         return found == NONE ? -1000 * TOO_GREAT : found;
     }
 
@@ -453,7 +455,7 @@ public final class RowTypes {
 
     private int loadAnew(Kept kept) {
         nodes.clear();
-        return nodes.load(kept);
+        return nodes.load(kept, false);
     }
 
     /** THE ANSWER becomes a type: its SIZE; NONE, and nothing has changed, if it is too great. */
@@ -479,7 +481,7 @@ public final class RowTypes {
 
     private int isAsGeneral(Kept general, Kept special) {
         int node = loadAnew(general);
-        return unifier.unify(node, nodes.loadFixed(special)) == 0 ? 1 : 0;
+        return unifier.unify(node, nodes.load(special, true)) == 0 ? 1 : 0;
     }
 
     private boolean worksOut(int at) {
@@ -1056,6 +1058,8 @@ public final class RowTypes {
     /** Types that are being unified, as nodes; a new question uses the same nodes again. */
     private static final class Nodes {
         private static final int FIRST_ROOM = 1024;
+        // More than a kept type is made of, or one expression, or a pair that is unified, makes.
+        private static final int ENOUGH = 256;
 
         private int[] kinds = new int[FIRST_ROOM];
         // Of a function: from, to; of a record or a variant: its row; of a field: its type and
@@ -1110,7 +1114,7 @@ public final class RowTypes {
         }
 
         private int make(int kind, int first, int second, int bit) {
-            if (used >= kinds.length && !grow()) {
+            if (used >= kinds.length) {
                 return NONE;
             }
             int node = used;
@@ -1124,9 +1128,10 @@ public final class RowTypes {
             return node;
         }
 
-        private boolean grow() {
-            if (kinds.length >= MOST_NODES) {
-                return false;
+        /** Makes room for what is made next. */
+        void makeRoom() {
+            if (used + ENOUGH <= kinds.length || kinds.length >= MOST_NODES) {
+                return;
             }
             int room = kinds.length * 2;
             kinds = Arrays.copyOf(kinds, room);
@@ -1135,7 +1140,6 @@ public final class RowTypes {
             bits = Arrays.copyOf(bits, room);
             links = Arrays.copyOf(links, room);
             marks = Arrays.copyOf(marks, room);
-            return true;
         }
 
         int kindOf(int node) {
@@ -1236,7 +1240,7 @@ public final class RowTypes {
             int row = end;
             for (int label = LABELS - 1; label >= 0; label--) {
                 if (types[label] != NONE) {
-                    row = fieldAhead(label, types[label], row);
+                    row = make(R_FIELD, types[label], row, label);
                 }
             }
             return row;
@@ -1299,28 +1303,22 @@ public final class RowTypes {
             return number >= 0 && number < variables.length ? variables[number] : NONE;
         }
 
-        /** A kept type with new variables, but for those that are given. */
-        int load(Kept kept) {
+        /** A kept type with new variables, but for those that are given; fixed ones can't become anything. */
+        int load(Kept kept, boolean fixed) {
+            int ofTypes = fixed ? F_VARIABLE : S_VARIABLE;
+            int ofRows = fixed ? F_OPEN : R_OPEN;
+            makeRoom();
             for (int i = 0; i < kept.variables && i < variables.length; i++) {
                 int lacking = kept.lacking(i);
-                int given = kept.givenFor(i);
-                variables[i] = given != NONE ? given : lacking == NONE ? newVariable() : newEnd(lacking);
+                if (kept.givenFor(i) != NONE) {
+                    variables[i] = kept.givenFor(i);
+                } else if (lacking == NONE) {
+                    variables[i] = make(ofTypes, NONE, NONE, 0);
+                } else {
+                    variables[i] = make(ofRows, NONE, NONE, lacking);
+                }
             }
-            return build(kept);
-        }
-
-        /** A kept type with variables that can't become anything. */
-        int loadFixed(Kept kept) {
-            for (int i = 0; i < kept.variables && i < variables.length; i++) {
-                int lacking = kept.lacking(i);
-                variables[i] = lacking == NONE ? make(F_VARIABLE, NONE, NONE, 0)
-                        : make(F_OPEN, NONE, NONE, lacking);
-            }
-            return build(kept);
-        }
-
-        // From the right: what a part needs has been built then and lies on the stack.
-        private int build(Kept kept) {
+            // From the right: what a part needs has been built then and lies on the stack.
             work.clear();
             for (int i = kept.length - 1; i >= 0; i--) {
                 work.push(buildPart(kept, i));
@@ -1378,11 +1376,6 @@ public final class RowTypes {
             }
         }
 
-        boolean isWithin(int variable, int root) {
-            clearMarks();
-            markAll(root);
-            return isMarked(variable);
-        }
     }
 
     /** Unifies types; what is still to be done lies on a stack, as types may be deep. */
@@ -1405,6 +1398,7 @@ public final class RowTypes {
             due.clear();
             pushPair(first, other, NOT_BEGUN);
             for (int k = 0; k < LONG_LOOP && due.length() > 0 && fault == 0; k++) {
+                nodes.makeRoom();
                 int done = due.pop();
                 int b = due.pop();
                 int a = due.pop();
@@ -1442,7 +1436,9 @@ public final class RowTypes {
         }
 
         private void bind(int variable, int type) {
-            if (nodes.isWithin(variable, type)) {
+            nodes.clearMarks();
+            nodes.markAll(type);
+            if (nodes.isMarked(variable)) {
                 fault = ENDLESS;
             } else {
                 nodes.become(variable, type);
@@ -1488,6 +1484,8 @@ public final class RowTypes {
 
         private void takeField(int end, int otherEnd, int at, int type) {
             int lacking = nodes.bitsOf(end);
+            nodes.clearMarks();
+            nodes.markAll(type);
             if (nodes.kindOf(end) != R_OPEN) {
                 fault = MISSING;
                 label = at;
@@ -1496,7 +1494,7 @@ public final class RowTypes {
             } else if ((lacking & (1 << at)) != 0) {
                 fault = TWICE;
                 label = at;
-            } else if (nodes.isWithin(end, type)) {
+            } else if (nodes.isMarked(end)) {
                 fault = ENDLESS;
             } else {
                 nodes.become(end, nodes.fieldAhead(at, type, nodes.newEnd(lacking | 1 << at)));
@@ -1565,8 +1563,7 @@ public final class RowTypes {
             }
         }
 
-        /** Finds the types of a text and of all in it; false: there is a fault. */
-        boolean finds(int at, int definitionsNow) {
+        void begin(int at, int definitionsNow) {
             definitions = definitionsNow;
             fault = 0;
             faultPlace = 0;
@@ -1574,11 +1571,7 @@ public final class RowTypes {
             bound = 0;
             schemesUsed = 0;
             nodes.clear();
-            if (at < 0 || at >= texts.length) {
-                return false;
-            }
-            expression = texts[at];
-            return find(0, 0) != NONE;
+            expression = at >= 0 && at < texts.length ? texts[at] : null;
         }
 
         /** The type that the expression at a place has, as far as types have been found. */
@@ -1600,32 +1593,32 @@ public final class RowTypes {
             return NONE;
         }
 
+        /** The type of the expression at a place, and so of all in it; NONE: there is a fault. */
         private int find(int place, int depth) {
-            if (depth >= MOST_SIGNS || place < 0 || place >= MOST_SIGNS) {
+            if (expression == null || depth >= MOST_SIGNS || place < 0 || place >= MOST_SIGNS) {
                 return fail(TOO_GREAT, 0);
             }
-            int type = findByKind(place, depth + 1);
+            int type;
+            switch (expression.kindAt(place)) {
+                case NUMBER: type = nodes.number(); break;
+                case NAME: type = findName(place); break;
+                case FUNCTION: type = findFunction(place, depth + 1); break;
+                case CALL: type = findCall(place, depth + 1); break;
+                case LET: type = findLet(place, depth + 1); break;
+                case EMPTY: type = nodes.withRow(S_RECORD, nodes.closed()); break;
+                case EXTEND: type = findExtend(place, depth + 1); break;
+                case CHANGE: type = findChange(place, depth + 1); break;
+                case JOIN: type = findJoin(place, depth + 1); break;
+                case VARIANT: type = findVariant(place, depth + 1); break;
+                default: type = findChoice(place, depth + 1); break;
+            }
+            // For what the expression around this one makes of its type.
+            nodes.makeRoom();
+            found[place] = type;
             if (type == NONE) {
                 return NONE;
             }
-            found[place] = type;
             return nodes.flatten(type, flat) > MOST_SIZE ? fail(TOO_GREAT, place) : type;
-        }
-
-        private int findByKind(int place, int depth) {
-            switch (expression.kindAt(place)) {
-                case NUMBER: return nodes.number();
-                case NAME: return findName(place);
-                case FUNCTION: return findFunction(place, depth);
-                case CALL: return findCall(place, depth);
-                case LET: return findLet(place, depth);
-                case EMPTY: return nodes.withRow(S_RECORD, nodes.closed());
-                case EXTEND: return findExtend(place, depth);
-                case CHANGE: return findChange(place, depth);
-                case JOIN: return findJoin(place, depth);
-                case VARIANT: return findVariant(place, depth);
-                default: return findChoice(place, depth);
-            }
         }
 
         private int findName(int place) {
@@ -1633,14 +1626,14 @@ public final class RowTypes {
             for (int i = bound - 1; i >= 0; i--) {
                 if (boundNames[i] == name) {
                     Kept scheme = boundSchemes[i];
-                    return scheme == null ? boundTypes[i] : nodes.load(scheme);
+                    return scheme == null ? boundTypes[i] : nodes.load(scheme, false);
                 }
             }
             int definition = name - 'p';
             if (definition < 0 || definition >= definitions || definition >= texts.length) {
                 return fail(UNKNOWN, place);
             }
-            return nodes.load(texts[definition].kept);
+            return nodes.load(texts[definition].kept, false);
         }
 
         private void bind(int name, int type, Kept scheme) {
@@ -2017,7 +2010,9 @@ public final class RowTypes {
             numbers[values] = number;
             owners[values] = owner;
             inners[values] = inner;
-            Arrays.fill(fields, values * LABELS, values * LABELS + LABELS, NONE);
+            for (int label = 0; label < LABELS; label++) {
+                fields[values * LABELS + label] = NONE;
+            }
             values++;
             return values - 1;
         }
