@@ -16,6 +16,7 @@ public final class PromisesTest {
         infersFaults();
         infersTooGreat();
         infersOrder();
+        faultsWithin();
         defines();
         forgets();
         size();
@@ -39,6 +40,7 @@ public final class PromisesTest {
         free();
         count();
         row();
+        rowToldAnew();
         System.out.println(wrong == 0 ? "all answers are as due" : wrong + " answers are not as due");
         if (wrong != 0) {
             System.exit(1);
@@ -200,7 +202,9 @@ public final class PromisesTest {
     }
 
     private static void infersTypes() {
+        types("0", "I");
         types("7", "I");
+        types("9", "I");
         types("\\x.x", "(a>a)");
         types("\\x.\\y.x", "(a>(b>a))");
         types("\\x.\\x.x", "(a>(b>b))");
@@ -273,6 +277,9 @@ public final class PromisesTest {
         fault("&{B=1|{C=1|{}}}{C=1|{B=1|{}}}", -4000, 1);
         fault("\\v.?v[Ax.1;*y.?y[Az.z]]", -4014, 0);
         fault("\\x.(xx)", -5003, NONE);
+        fault("\\x.?<Ax>[Ay.y;Bz.{A=x|{}}]", -5014, NONE);
+        fault("\\x.?<Ax>[Ay.y;Bz.<Ax>]", -5014, NONE);
+        fault("\\x.?<Ax>[Ay.y;Bz.{A=1|{B={C=\\y.x|{}}|{}}}]", -5014, NONE);
         fault("\\r.\\s.&rs", -6006, NONE);
         fault("\\r.&rr", -6003, NONE);
         // The same END with another label; a variable, an END within its own type.
@@ -296,6 +303,23 @@ public final class PromisesTest {
         due(4, "and 6", Talk.infers(x, "{H=\\y.\\z.{A=1|{}}|{F=(p1)|(q(p1))}}"), -7000);
         due(4, "and 5 in a function", Talk.infers(x, "{H=\\y.{A=\\z.1|{}}|{F=(p1)|(q(p1))}}"), -7000);
         due(4, "IT stays", x.size(IT), 60);
+        // 60 stands as THE ANSWER, too.
+        Talk.defines(x, "\\x.x");
+        due(17, "60", x.meets(IT, IT), 60);
+        due(18, "60", x.applies(2, IT), 60);
+        due(19, "60", x.part(IT, 0), 60);
+        due(14, "60", x.closes(IT), 60);
+    }
+
+    /** A fault in each part of each kind of expression is the fault of the whole. */
+    private static void faultsWithin() {
+        for (String text : new String[] {"\\x.!", "(!1)", "(\\x.x!)", "$x=!;1", "$x=1;!", "{A=!|{}}", "{A=1|!}",
+                "#A!", "-A!", "~AB!", "&!{}", "&{}!", "<A!>", "?![Ax.1]", "?<A1>[Ax.!;*y.1]", "?<A1>[Ax.1;By.!]",
+                "?<A1>[Ax.1;*y.!]"}) {
+            int place = text.indexOf('!');
+            fault(text.replace("!", "y").replace("*y", "*z").replace("By", "Bz"), -1000 - place, NONE);
+            fault(text.replace("!", "{A=(11)|{}}"), -2000 - place - 3, NONE);
+        }
     }
 
     private static void infersOrder() {
@@ -752,6 +776,7 @@ public final class PromisesTest {
         due(21, "below", x.value(IT, -2), NONE);
         due(21, "none such", x.value(0, 0), NONE);
         due(21, "none such", x.value(ANSWER, 0), NONE);
+        due(21, "A and H", Talk.value(it("{H=<H1>|{A=2|{}}}"), IT), "{A=2,H=<H1>}");
         due(21, "~", Talk.value(it("~AB{A=1|{C=2|{}}}"), IT), "{B=1,C=2}");
         due(21, "&", Talk.value(it("&{B=1|{}}{A=2|{}}"), IT), "{A=2,B=1}");
         due(21, "-", Talk.value(it("-A{A=1|{C=2|{}}}"), IT), "{C=2}");
@@ -827,6 +852,10 @@ public final class PromisesTest {
         due(25, "the ROW", Talk.row(x), "3");
         due(25, "bound in the second part alone", it("$p=p;p", "1").free(IT), 1 << 15);
         due(25, "bound in a branch", it("?<A1>[Ap.p;*q.1]", "1").free(IT), 0);
+        due(25, "bound in another branch", it("?<A1>[Ap.1;*q.p]", "1").free(IT), 1 << 15);
+        x = it("?<A1>[Ax.1;*y.{A=1|{}}]".replace("Ax.1", "Ax.{A=x|{}}"));
+        due(25, "names of branches", x.free(IT), 0);
+        due(25, "branches are within", Talk.row(x), "3");
         due(25, "bound beside it", it("{A=\\p.p|{B=p|{}}}", "1").free(IT), 1 << 15);
         x = it("1");
         due(25, "one alone", x.free(IT), 0);
@@ -869,5 +898,36 @@ public final class PromisesTest {
         x.free(IT);
         due(27, "told last", x.row(0), 2);
         due(27, "told last", throwsNoSuch(x, 1) ? 1 : 0, 1);
+    }
+
+    /** What each call tells stands alone in the ROW, whatever stood there. */
+    private static void rowToldAnew() {
+        String[] due = {"2 1", "4 1 4", "4 1 4", "1", "1 -1", "0 1 1 0 0 0 0 1 0 0 0", "0 1 0 0", "3", "3", "-1", "-1", "-1"};
+        for (int before = 0; before < due.length; before++) {
+            for (int call = 0; call < due.length; call++) {
+                RowTypes x = it("\\r.#Cr", "{A=3|{}}");
+                x.side(IT, 0);
+                tells(x, before);
+                tells(x, call);
+                due(27, "call " + call + " behind " + before, Talk.row(x), due[call]);
+            }
+        }
+    }
+
+    private static void tells(RowTypes x, int call) {
+        switch (call) {
+            case 0: x.size(IT); break;
+            case 1: x.sort(ANSWER); break;
+            case 2: x.needs(IT); break;
+            case 3: x.above(IT, IT); break;
+            case 4: x.steps(IT); break;
+            case 5: x.parts(IT); break;
+            case 6: x.often(IT, 2); break;
+            case 7: x.free(IT); break;
+            case 8: x.taken(0, 0); break;
+            case 9: Talk.infers(x, "(11)"); break;
+            case 10: x.meets(0, IT); break;
+            default: x.applies(0, 0); break;
+        }
     }
 }
