@@ -481,7 +481,8 @@ public final class RowTypes {
 
     private int isAsGeneral(Kept general, Kept special) {
         int node = loadAnew(general);
-        return unifier.unify(node, nodes.load(special, true)) == 0 ? 1 : 0;
+        int fault = unifier.unify(node, nodes.load(special, true));
+        return fault == 0 && unifier.becameSame ? 1 : 0;
     }
 
     private boolean worksOut(int at) {
@@ -1068,14 +1069,15 @@ public final class RowTypes {
         private int[] seconds = new int[FIRST_ROOM];
         // Of a field: its label; of a row variable: what it lacks.
         private int[] bits = new int[FIRST_ROOM];
-        // What a variable has become. A function, a record or a variant that was unified with
-        // another one becomes that too, or great types that share parts would take too long.
+        // What a variable has become. A function, a record or a variant that has become the same as
+        // another one becomes that one, or great types that share parts would take too long.
         private int[] links = new int[FIRST_ROOM];
         private int[] marks = new int[FIRST_ROOM];
         private int used;
         private int mark;
         private final Ints work = new Ints();
         private final int[] types = new int[LABELS];
+        private final int[] otherTypes = new int[LABELS];
         private final int[] variables = new int[MOST_SIZE + 1];
 
         void clear() {
@@ -1236,6 +1238,27 @@ public final class RowTypes {
             return at;
         }
 
+        /** Whether two records, or two variants, are of the same parts. */
+        boolean areSameRows(int a, int b) {
+            int end = gather(a);
+            for (int label = 0; label < LABELS; label++) {
+                otherTypes[label] = look(types[label]);
+            }
+            if (gather(b) != end) {
+                return false;
+            }
+            for (int label = 0; label < LABELS; label++) {
+                if (look(types[label]) != otherTypes[label]) {
+                    return false;
+                }
+            }
+            return true;
+        }
+
+        boolean areSameFunctions(int a, int b) {
+            return look(firstOf(a)) == look(firstOf(b)) && look(secondOf(a)) == look(secondOf(b));
+        }
+
         private int rowOfTypes(int end) {
             int row = end;
             for (int label = LABELS - 1; label >= 0; label--) {
@@ -1386,6 +1409,9 @@ public final class RowTypes {
         private final Ints due = new Ints();
         private int fault;
         private int label;
+        // A row may get a field, by what is within another field, when the label of it is past: the
+        // document looks at each label once, so that then two rows are unified but not the same.
+        private boolean becameSame;
 
         Unifier(Nodes nodes) {
             this.nodes = nodes;
@@ -1395,6 +1421,7 @@ public final class RowTypes {
         int unify(int first, int other) {
             fault = 0;
             label = NONE;
+            becameSame = true;
             due.clear();
             pushPair(first, other, NOT_BEGUN);
             for (int k = 0; k < LONG_LOOP && due.length() > 0 && fault == 0; k++) {
@@ -1447,7 +1474,7 @@ public final class RowTypes {
 
         private void goOnFunctions(int a, int b, int done) {
             if (done >= 2) {
-                nodes.become(nodes.look(a), nodes.look(b));
+                endPair(a, b, nodes.areSameFunctions(a, b));
                 return;
             }
             pushPair(a, b, done + 1);
@@ -1478,7 +1505,15 @@ public final class RowTypes {
                 joinEnds(nodes.endOf(a), nodes.endOf(b));
             }
             if (fault == 0) {
+                endPair(a, b, nodes.areSameRows(a, b));
+            }
+        }
+
+        private void endPair(int a, int b, boolean same) {
+            if (same) {
                 nodes.become(nodes.look(a), nodes.look(b));
+            } else {
+                becameSame = false;
             }
         }
 

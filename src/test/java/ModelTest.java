@@ -60,6 +60,10 @@ public final class ModelTest {
                 tell(Maker.HARD[i]);
                 due("defines", x.defines(), m.defines());
             }
+            if (!hard && !strong && random.nextInt(3) == 0) {
+                goTwisted();
+                return;
+            }
             for (int i = 0; strong && i < 5; i++) {
                 tell(maker.strong());
                 due("defines", x.defines(), m.defines());
@@ -68,6 +72,61 @@ public final class ModelTest {
                 step();
                 compareState();
             }
+        }
+
+        /** Types of rows within rows of the same END, of all parts, and held against one another. */
+        void goTwisted() {
+            for (int i = 0; i < 8 && !off; i++) {
+                tell("\\r.\\s." + maker.twistedRecord());
+                due("defines", x.defines(), m.defines());
+            }
+            for (int i = 0; i < 8 && !off; i++) {
+                tell(maker.twisted());
+                int r = m.infers();
+                due("infers", x.infers(), r);
+                note(r > 0 ? "twisted" : "twisted " + r / 1000 * 1000);
+                for (int place = 0; r > 0 && place < 100; place++) {
+                    due("part -1 " + place, x.part(-1, place), m.part(-1, place));
+                    compareAnswer();
+                }
+            }
+            for (int a = 0; a < 8 && !off; a++) {
+                inner(a);
+                compareAnswer();
+                x.closes(-2);
+                m.closes(-2);
+                String told = told();
+                for (int b = 0; b < 8; b++) {
+                    inner(b);
+                    // The type of a, closed, is told; that of a is a side of a definition.
+                    tell(told.length() > 100 ? "{}" : told);
+                    due("fits -2", x.fits(-2), m.fits(-2));
+                }
+            }
+            for (int k = 0; k < 30 && !off; k++) {
+                compareInner(random.nextInt(8), random.nextInt(8));
+            }
+        }
+
+        /** Two records: one is THE ANSWER, the other one is the type of IT, whose END is nothing. */
+        void compareInner(int a, int b) {
+            tell(maker.twistedRecord().replace("r", "{}").replace("s", "{A=1|{}}"));
+            due("infers", x.infers(), m.infers());
+            inner(a);
+            int r = m.above(-2, -1);
+            due("above -2 -1", x.above(-2, -1), r);
+            compareRow();
+            due("meets -2 -1", x.meets(-2, -1), m.meets(-2, -1));
+            compareAnswer();
+            inner(b);
+            due("meets -1 -2", x.meets(-1, -2), m.meets(-1, -2));
+            compareAnswer();
+        }
+
+        /** THE ANSWER becomes the record that a definition goes to. */
+        void inner(int k) {
+            due("side " + k + " 1", x.side(k, 1), m.side(k, 1));
+            due("side -2 1", x.side(-2, 1), m.side(-2, 1));
         }
 
         void due(String call, long got, long want) {
@@ -275,6 +334,10 @@ public final class ModelTest {
             for (int what = -1; what < 6; what++) {
                 due("count " + what, x.count(what), m.count(what));
             }
+            compareAnswer();
+        }
+
+        void compareAnswer() {
             int n = m.type(-2, -1);
             for (int i = -1; i < n; i++) {
                 due("type -2 " + i, x.type(-2, i), m.type(-2, i));
