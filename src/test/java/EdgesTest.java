@@ -34,6 +34,7 @@ public final class EdgesTest {
         forgets();
         which();
         manyVariables();
+        manyTypes();
         type();
         lacks();
         sort();
@@ -211,7 +212,7 @@ public final class EdgesTest {
             String[] some = java.util.Arrays.copyOf(eight, n);
             for (char name = 'a'; name <= 'z'; name++) {
                 if (name >= 'p' && name < 'p' + n) {
-                    has2(String.valueOf(name), "<" + (char) ('A' + name - 'p') + ":I|a>", some);
+                    typeIs(String.valueOf(name), "<" + (char) ('A' + name - 'p') + ":I|a>", some);
                 } else {
                     Due.due(name + " with " + n, Talk.infers(with(some), String.valueOf(name)), -1000);
                 }
@@ -221,15 +222,19 @@ public final class EdgesTest {
         has("\\p.p", "(a>a)", "1");
         has("$p={};p", "{}", "1");
         has("?<A{}>[Ap.p]", "{}", "1");
-        has("?<A{}>[*p.p]", "<A:{}>".replace(">", "|a>"), "1");
+        has("?<A{}>[*p.p]", "<A:{}|a>", "1");
         has("\\x.\\x.x", "(a>(b>b))");
         has("\\x.$x=1;x", "(a>I)");
         has("$x=1;\\x.x", "(a>a)");
         has("$p=p;p", "I", "1");
         has("{A=\\p.p|{B=p|{}}}", "{A:(a>a),B:I}", "1");
+        has("{A=$p={};p|{B=p|{}}}", "{A:{},B:I}", "1");
+        has("$x=1;{A=$x={};x|{B=x|{}}}", "{A:{},B:I}");
+        has("$x=1;{A=?<A{}>[Ax.x]|{B=x|{}}}", "{A:{},B:I}");
+        has("\\x.{A=$x={};x|{B=x|{}}}", "(a>{A:{},B:a})");
     }
 
-    private static void has2(String text, String type, String... definitions) {
+    private static void typeIs(String text, String type, String... definitions) {
         RowTypes x = with(definitions);
         Talk.infers(x, text);
         Due.due("the type of " + text + " with " + definitions.length, Talk.type(x, IT), type);
@@ -243,7 +248,7 @@ public final class EdgesTest {
             Due.due("the number " + n, x.row(1), n);
         }
         for (char name = 'a'; name <= 'z'; name++) {
-            has2("\\" + name + "." + name, "(a>a)");
+            typeIs("\\" + name + "." + name, "(a>a)");
         }
         Due.says(0, "LABELS A .. H (0 .. 7).");
         for (int label = 0; label < 8; label++) {
@@ -262,6 +267,11 @@ public final class EdgesTest {
         faulty("{A=\\x.x|x}", 1, 8, NONE);
         faulty("?<A1>[Ax.1;By.x]", 1, 14, NONE);
         faulty("?x[Ax.1]", 1, 1, NONE);
+        // Behind the expression that binds it, it is bound no more.
+        faulty("{A=$x=1;x|x}", 1, 10, NONE);
+        faulty("{A=?<A1>[Ax.x]|x}", 1, 15, NONE);
+        faulty("{A=?<A1>[*x.1]|x}", 1, 15, NONE);
+        faulty("$y=$x=1;x;x", 1, 10, NONE);
         faulty("o", 1, 0, NONE, "1");
         faulty("q", 1, 0, NONE, "1");
         has("p", "I", "1");
@@ -429,6 +439,17 @@ public final class EdgesTest {
         Due.due("the one", Talk.type(x, ANSWER), "{A:I,B:{A:I}}");
         x.part(IT, text.indexOf("{B={A=1"));
         Due.due("the other one", Talk.type(x, ANSWER), "{B:{A:I}}");
+        // And so do functions from and to them.
+        text = "\\r.$y={B=1|r};?<A\\z.{B=r|r}>[Ax.x;Bx.\\z.{B={A=1|{}}|{}}]";
+        x = it(text);
+        Due.due("the first branch's", Talk.type(x, IT), "({A:I}>(a>{A:I,B:{A:I}}))");
+        x.part(IT, text.indexOf("\\z.{B={A=1"));
+        Due.due("the other one", Talk.type(x, ANSWER), "(a>{B:{A:I}})");
+        text = "\\r.$y={B=1|r};?<A\\f.(f{B=r|r})>[Ax.x;Bx.\\f.(f{B={A=1|{}}|{}})]";
+        x = it(text);
+        Due.due("the first branch's", Talk.type(x, IT), "({A:I}>(({A:I,B:{A:I}}>a)>a))");
+        x.part(IT, text.indexOf("\\f.(f{B={A=1"));
+        Due.due("the other one", Talk.type(x, ANSWER), "(({B:{A:I}}>a)>a)");
         Due.says(0, "if both are, unlike ones, that of the first ROW becomes the other one, which LACKS what both did.");
         x = it("\\r.\\s.$y={A=1|r};$y={C=1|s};?<Ar>[Ax.x;Bx.s]");
         Due.due("one END", Talk.type(x, IT), "({|a}>({|a}>{|a}))");
@@ -687,6 +708,33 @@ public final class EdgesTest {
         Due.due("behind", x.lacks(ANSWER, 53), NONE);
     }
 
+    /** Great types with new variables each time, as often as a text can tell. */
+    private static void manyTypes() {
+        Due.says(0, "its TYPE with new variables (which LACK the same)");
+        RowTypes x = withManyVariables();
+        Due.due("infers", Talk.infers(x, "q"), 54);
+        String written = Talk.type(x, IT);
+        for (int n = 0; n <= 19; n++) {
+            Due.due("q, " + n + " times", Talk.infers(x, "$x=q;".repeat(n) + "1"), 1);
+            Due.due("part of the first one", x.part(IT, n == 0 ? 0 : 3), n == 0 ? 1 : 54);
+            Due.due("part of the last one", x.part(IT, n == 0 ? 0 : 5 * n - 2), n == 0 ? 1 : 54);
+            Due.due("the last one", Talk.type(x, ANSWER), n == 0 ? "I" : written);
+            Due.due("LACKS of the last one's END", x.lacks(ANSWER, 45), n == 0 ? NONE : 31);
+        }
+        for (int n = 0; n <= 18; n++) {
+            Due.due("q behind " + n, Talk.infers(x, "$x=q;".repeat(n) + (n == 0 ? "q" : "x")), 54);
+            Due.due("written", Talk.type(x, IT), written);
+            Due.due("a call of it behind " + n, Talk.infers(x, "$x=q;".repeat(n) + "\\r.(qr)"), 54);
+            Due.due("written", Talk.type(x, IT), written);
+            Due.due("a fault behind " + n, Talk.infers(x, "$x=q;".repeat(n) + "(q{})"), -3000 - 5 * n);
+        }
+        // Ten of them are unified with one another.
+        Due.due("the same variable", Talk.infers(x, "\\r." + "$x=(qr);".repeat(10) + "1"), 54);
+        Due.due("written", Talk.type(x, IT), written);
+        Due.due("and more", Talk.infers(x, "\\r." + "$x=(qr);".repeat(11) + "(qr)"), 54);
+        Due.due("written", Talk.type(x, IT), written);
+    }
+
     private static String name(int k) {
         return (char) ('a' + k % 26) + (k < 26 ? "" : String.valueOf(k / 26));
     }
@@ -808,7 +856,7 @@ public final class EdgesTest {
 
     private static void field() {
         Due.says(12, "-2: it is none, or has none such; NONE: none such, no such LABEL.");
-        for (String text : new String[] {"{B=1|{H={}|{}}}", "?<B1>[Bx.<Bx>;Hx.<H{}>]".replace("Hx.<H{}>", "*x.<H{}>")}) {
+        for (String text : new String[] {"{B=1|{H={}|{}}}", "?<B1>[Bx.<Bx>;*x.<H{}>]"}) {
             for (int label = -2; label <= 9; label++) {
                 RowTypes x = it(text);
                 int answer = label < 0 || label > 7 ? NONE : label == 1 || label == 7 ? 1 : -2;
@@ -1143,7 +1191,8 @@ public final class EdgesTest {
         }
         Due.says(20, "(0 .. 3 as sort()), the number (of a record LABELS as bits, of a variant its LABEL, of a function NONE).");
         String[][] values = {{"0", "0 0"}, {"9", "0 9"}, {"\\x.x", "1 -1"}, {"{}", "2 0"}, {"{H=1|{A=2|{}}}", "2 129"},
-            {"<A1>", "3 0"}, {"<H1>", "3 7"}};
+            {"<A1>", "3 0"}, {"<H1>", "3 7"}, {"&{}{}", "2 0"}, {"&{B=1|{}}{H=2|{}}", "2 130"}, {"-B{A=1|{B=2|{}}}", "2 1"},
+            {"-A{A=1|{}}", "2 0"}, {"~AH{A=1|{}}", "2 128"}};
         for (String[] v : values) {
             x = it(v[0]);
             x.steps(IT);
@@ -1160,7 +1209,7 @@ public final class EdgesTest {
     private static void stepsOfEachKind() {
         Due.says(0, "each EXPRESSION that is worked out is a STEP");
         String[] texts = {"1", "\\x.(x1)", "{}", "{A=1|{}}", "#A{A=1|{}}", "-A{A=1|{}}", "~AB{A=1|{}}", "&{}{}", "<A1>",
-            "$x=1;2", "$x=1;x", "(\\x.1 2)".replace(" ", ""), "(\\x.x2)", "?<A1>[Ax.2]", "?<A1>[Ax.x;*y.(\\x.x3)]",
+            "$x=1;2", "$x=1;x", "(\\x.12)", "(\\x.x2)", "?<A1>[Ax.2]", "?<A1>[Ax.x;*y.(\\x.x3)]",
             "?<A1>[Bx.(\\x.xx);*y.3]", "p", "{A=p|{B=p|{}}}", "q", "(r1)"};
         int[] due = {1, 1, 1, 3, 4, 4, 4, 3, 2, 3, 3, 4, 4, 4, 4, 4, 2, 7, 3, 5};
         for (int i = 0; i < texts.length; i++) {
@@ -1171,9 +1220,14 @@ public final class EdgesTest {
     private static void value() {
         Due.says(21, "Sign i of the VALUE of w, WRITTEN; i NONE: how many signs.");
         String[][] pairs = {{"7", "7"}, {"\\x.x", "\\"}, {"{}", "{}"}, {"{H=1|{A={}|{}}}", "{A={},H=1}"}, {"<H<A1>>", "<H<A1>>"},
-            {"{B=<C\\x.1>|{}}", "{B=<C\\>}"}};
+            {"{B=<C\\x.1>|{}}", "{B=<C\\>}"}, {"&{B=1|{}}{H=2|{}}", "{B=1,H=2}"}, {"&{A=1|{}}{H=2|{}}", "{A=1,H=2}"},
+            {"&{}{}", "{}"}, {"-H{A=1|{H=2|{}}}", "{A=1}"}, {"-A{A=1|{H=2|{}}}", "{H=2}"}, {"-A{A=1|{}}", "{}"},
+            {"~BC{A=1|{B=2|{H=3|{}}}}", "{A=1,C=2,H=3}"}, {"~AH{A=1|{G=2|{}}}", "{G=2,H=1}"}, {"~HA{H=1|{G=2|{}}}", "{A=1,G=2}"},
+            {"#H{A=1|{H=2|{}}}", "2"}, {"#A{A=1|{H=2|{}}}", "1"}, {"?<H1>[Ax.<Bx>;Hx.<Ax>]", "<A1>"},
+            {"?<H1>[Ax.<Bx>;*x.x]", "<H1>"}, {"?<H1>[*x.<Ax>]", "<A<H1>>"}};
         for (String[] pair : pairs) {
             RowTypes x = it(pair[0]);
+            Due.due("the value of " + pair[0], Talk.value(x, IT), pair[1]);
             Due.due("how many", x.value(IT, NONE), pair[1].length());
             for (int i = 0; i < pair[1].length(); i++) {
                 Due.due("sign " + i, x.value(IT, i), pair[1].charAt(i));
