@@ -714,25 +714,30 @@ public final class EdgesTest {
         RowTypes x = withManyVariables();
         Due.due("infers", Talk.infers(x, "q"), 54);
         String written = Talk.type(x, IT);
-        for (int n = 0; n <= 19; n++) {
-            Due.due("q, " + n + " times", Talk.infers(x, "$x=q;".repeat(n) + "1"), 1);
-            Due.due("part of the first one", x.part(IT, n == 0 ? 0 : 3), n == 0 ? 1 : 54);
-            Due.due("part of the last one", x.part(IT, n == 0 ? 0 : 5 * n - 2), n == 0 ? 1 : 54);
-            Due.due("the last one", Talk.type(x, ANSWER), n == 0 ? "I" : written);
-            Due.due("LACKS of the last one's END", x.lacks(ANSWER, 45), n == 0 ? NONE : 31);
+        for (int n = 1; n <= 19; n++) {
+            String before = "$x=q;".repeat(n);
+            x = withManyVariables();
+            Due.due("q, " + n + " times", Talk.infers(x, before + "1"), 1);
+            Due.due("part of the first one", x.part(IT, 3), 54);
+            Due.due("part of the last one", x.part(IT, 5 * n - 2), 54);
+            Due.due("the last one", Talk.type(x, ANSWER), written);
+            Due.due("LACKS of the last one's END", x.lacks(ANSWER, 45), 31);
+            greatBehind(before.substring(5), written, "q");
+            greatBehind(before.substring(5), written, "\\r.(qr)");
+            greatBehind(before, written, "x");
+            x = withManyVariables();
+            Due.due("a fault behind " + n, Talk.infers(x, before.substring(5) + "(q{})"), -3000 - 5 * (n - 1));
         }
-        for (int n = 0; n <= 18; n++) {
-            Due.due("q behind " + n, Talk.infers(x, "$x=q;".repeat(n) + (n == 0 ? "q" : "x")), 54);
-            Due.due("written", Talk.type(x, IT), written);
-            Due.due("a call of it behind " + n, Talk.infers(x, "$x=q;".repeat(n) + "\\r.(qr)"), 54);
-            Due.due("written", Talk.type(x, IT), written);
-            Due.due("a fault behind " + n, Talk.infers(x, "$x=q;".repeat(n) + "(q{})"), -3000 - 5 * n);
+        // As many as can be are unified with one another.
+        for (int n = 0; n <= 11; n++) {
+            greatBehind("\\r." + "$x=(qr);".repeat(n), written, n < 11 ? "$x=(qr);1" : "(qr)");
         }
-        // Ten of them are unified with one another.
-        Due.due("the same variable", Talk.infers(x, "\\r." + "$x=(qr);".repeat(10) + "1"), 54);
-        Due.due("written", Talk.type(x, IT), written);
-        Due.due("and more", Talk.infers(x, "\\r." + "$x=(qr);".repeat(11) + "(qr)"), 54);
-        Due.due("written", Talk.type(x, IT), written);
+    }
+
+    private static void greatBehind(String before, String written, String text) {
+        RowTypes x = withManyVariables();
+        Due.due(before + text, Talk.infers(x, before + text), 54);
+        Due.due(before + text, Talk.type(x, IT), written);
     }
 
     private static String name(int k) {

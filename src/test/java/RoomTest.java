@@ -3,11 +3,13 @@ import java.lang.management.ManagementFactory;
 /** What one object makes in its 512 calls, and how deep its calls go, with the dearest texts. */
 public final class RoomTest {
     private static final long MOST_BYTES = 4_000_000;
+    private static final int CALLS = 18;
     private static int wrong = 0;
 
     public static void main(String[] args) throws InterruptedException {
         room();
         room();
+        again();
         deep();
         System.out.println(wrong == 0 ? "all is small" : wrong + " are too great");
         if (wrong != 0) {
@@ -50,6 +52,53 @@ public final class RoomTest {
         if (all > MOST_BYTES || fresh > 400_000) {
             wrong++;
             System.out.println("made " + fresh + " bytes when new, " + all + " bytes in all; texts " + texts[1]);
+        }
+    }
+
+    /** Rows are used again: what was asked once makes nothing more when it is asked again. */
+    private static void again() {
+        RowTypes x = new RowTypes();
+        String[] texts = {"\\r.$x=#Ar;$x=#Br;$x=#Cr;$x=#Dr;$x=#Er;$x=#Fr;$x=#Gr;#Hr", "{A=1|{}}", "\\r.#Ar"};
+        for (String s : texts) {
+            Talk.defines(x, s);
+        }
+        Talk.infers(x, "(r{A=q|{}})");
+        for (int call = 0; call < CALLS; call++) {
+            ask(x, call);
+        }
+        for (int call = 0; call < CALLS; call++) {
+            long before = made();
+            for (int i = 0; i < 25; i++) {
+                ask(x, call);
+            }
+            long more = made() - before;
+            if (more > 1000) {
+                wrong++;
+                System.out.println("call " + call + " makes " + more + " bytes more when it is made again");
+            }
+        }
+    }
+
+    private static int ask(RowTypes x, int call) {
+        switch (call) {
+            case 0: return x.size(0);
+            case 1: return x.type(0, -1);
+            case 2: return x.sort(0);
+            case 3: return x.needs(0);
+            case 4: return x.side(0, 0);
+            case 5: return x.closes(0);
+            case 6: return x.above(0, 0);
+            case 7: return x.meets(0, 0);
+            case 8: return x.applies(2, 1);
+            case 9: return x.part(0, 0);
+            case 10: return x.steps(-1);
+            case 11: return x.value(-1, 0) + x.taken(-1, 0);
+            case 12: return x.parts(0) + x.often(0, 0) + x.free(0);
+            case 13: return x.sign(0x49000000) + (x.end(1) ? 1 : 0) + x.fits(0);
+            case 14: return x.sign(0x7B413A7B) + x.fits(0);
+            case 15: return x.sign(0x5C782E78) + x.infers();
+            case 16: return x.sign(0x28282828) + x.infers();
+            default: return x.sign(0x5C782E78) + x.defines() + x.forgets(3);
         }
     }
 
