@@ -340,7 +340,7 @@ public final class RowTypes {
         if (!worksOut(at)) {
             return TOO_MANY_STEPS;
         }
-        return signOf(scribe.writeValue(machine), i);
+        return i == NONE ? machine.signsInAll() : scribe.signOfValue(machine, i);
     }
 
     public int taken(int w, int label) {
@@ -352,7 +352,7 @@ public final class RowTypes {
             return TOO_MANY_STEPS;
         }
         int inner = machine.contentOf(machine.result, label);
-        if (inner == NONE) {
+        if (machine.sortOf(inner) == NONE) {
             return NO_SUCH_FIELD;
         }
         clearRow();
@@ -490,7 +490,7 @@ public final class RowTypes {
             machine.run(at, definitions);
             workedOut = at;
         }
-        return machine.steps <= MOST_STEPS && machine.result != NONE;
+        return machine.steps <= MOST_STEPS;
     }
 
     private void clearRow() {
@@ -1866,8 +1866,13 @@ public final class RowTypes {
 
     /** Works out an expression; what is still to be done lies on a stack. */
     private static final class Machine {
-        // Each step makes one value at most, and binds one name at most.
+        // Each step makes one value at most, and binds one name at most; and there is NOTHING.
         private static final int ROOM = MOST_STEPS + 2;
+        // Two rows may be unified and yet differ, so that a part has not what its type says: a field
+        // that is not there is NOTHING, and so is what can't be made of it; the steps go on.
+        private static final int NOTHING = 0;
+        // Above each sign that can be asked for; eight times as much is still a long.
+        private static final long MOST_LENGTH = 1L << 40;
 
         private final Expression[] texts;
         private int definitions;
@@ -1879,6 +1884,8 @@ public final class RowTypes {
         // The names that a function knows; what is in a variant.
         private final int[] inners = new int[ROOM];
         private final int[] fields = new int[ROOM * LABELS];
+        // How many signs a value has when it is written; 0: NOTHING is in it.
+        private final long[] lengths = new long[ROOM];
         private int values;
         private final int[] names = new int[ROOM];
         private final int[] namedValues = new int[ROOM];
@@ -1886,7 +1893,6 @@ public final class RowTypes {
         private int bindings;
         private final Ints due = new Ints();
         private final Ints done = new Ints();
-        private boolean stopped;
         private int steps;
         private int result;
 
@@ -1894,30 +1900,31 @@ public final class RowTypes {
             this.texts = texts;
         }
 
-        /** Works out a text; the result is NONE if that takes too many steps. */
+        /** Works out a text; the result counts if that doesn't take too many steps. */
         void run(int text, int definitionsNow) {
             definitions = definitionsNow;
             values = 0;
             bindings = 0;
             steps = 0;
-            stopped = false;
             due.clear();
             done.clear();
+            newValue(NONE, NONE, NONE, NONE);
             pushDue(text, 0, NONE, false);
-            for (int k = 0; k < LONG_LOOP && due.length() > 0 && !stopped; k++) {
+            for (int k = 0; k < LONG_LOOP && due.length() > 0 && steps <= MOST_STEPS; k++) {
                 boolean partsDone = due.pop() == 1;
                 int known = due.pop();
                 int place = due.pop();
                 int at = due.pop();
                 if (at < 0 || at >= texts.length) {
-                    stopped = true;
+                    done.push(NOTHING);
                 } else if (partsDone) {
                     finish(at, place, known);
                 } else {
                     begin(at, place, known);
                 }
             }
-            result = stopped ? NONE : done.pop();
+            result = done.pop();
+            measure();
         }
 
         private void pushDue(int text, int place, int known, boolean partsDone) {
@@ -1930,7 +1937,6 @@ public final class RowTypes {
         private void begin(int text, int place, int known) {
             steps++;
             if (steps > MOST_STEPS) {
-                stopped = true;
                 return;
             }
             Expression expression = texts[text];
@@ -1963,7 +1969,7 @@ public final class RowTypes {
             }
             int definition = name - 'p';
             if (definition < 0 || definition >= definitions) {
-                stopped = true;
+                done.push(NOTHING);
             } else {
                 pushDue(definition, 0, NONE, false);
             }
@@ -2000,7 +2006,7 @@ public final class RowTypes {
 
         private void finishCall(int function, int given) {
             if (sortOf(function) != S_FUNCTION || owners[function] < 0 || owners[function] >= texts.length) {
-                stopped = true;
+                done.push(NOTHING);
                 return;
             }
             Expression expression = texts[owners[function]];
@@ -2011,7 +2017,7 @@ public final class RowTypes {
 
         private void finishChoice(int text, int place, int known, int variant) {
             Expression expression = texts[text];
-            int branch = expression.linkAt(place);
+            int branch = sortOf(variant) == S_VARIANT ? expression.linkAt(place) : NONE;
             for (int k = 0; k < MOST_SIGNS && branch != NONE; k++) {
                 int label = expression.labelAt(branch);
                 int given = isLabel(label) ? contentOf(variant, label) : variant;
@@ -2021,13 +2027,12 @@ public final class RowTypes {
                 }
                 branch = expression.linkAt(branch);
             }
-            stopped = true;
+            done.push(NOTHING);
         }
 
         private int bind(int name, int value, int known) {
             if (bindings >= ROOM) {
-                stopped = true;
-                return NONE;
+                return known;
             }
             names[bindings] = name;
             namedValues[bindings] = value;
@@ -2038,8 +2043,7 @@ public final class RowTypes {
 
         private int newValue(int sort, int number, int owner, int inner) {
             if (values >= ROOM) {
-                stopped = true;
-                return NONE;
+                return NOTHING;
             }
             sorts[values] = sort;
             numbers[values] = number;
@@ -2059,46 +2063,102 @@ public final class RowTypes {
             }
         }
 
-        private void copyFields(int from, int to) {
+        private int newRecord() {
+            return newValue(S_RECORD, 0, NONE, NONE);
+        }
+
+        private void copyFields(int from, int to, int butLabel) {
             for (int label = 0; label < LABELS; label++) {
-                setField(to, label, contentOf(from, label));
+                if (label != butLabel) {
+                    setField(to, label, contentOf(from, label));
+                }
             }
         }
 
         private int extended(int record, int label, int value) {
-            int wider = newValue(S_RECORD, 0, NONE, NONE);
-            copyFields(record, wider);
+            if (sortOf(record) != S_RECORD) {
+                return NOTHING;
+            }
+            int wider = newRecord();
+            copyFields(record, wider, label);
             setField(wider, label, value);
             return wider;
         }
 
         private int joined(int first, int other) {
-            int record = newValue(S_RECORD, 0, NONE, NONE);
-            copyFields(first, record);
-            copyFields(other, record);
+            if (sortOf(first) != S_RECORD || sortOf(other) != S_RECORD) {
+                return NOTHING;
+            }
+            int record = newRecord();
+            copyFields(first, record, NONE);
+            copyFields(other, record, NONE);
             return record;
         }
 
+        // Without that field a record is left as it is by - and ~.
         private int changed(int record, Expression expression, int place) {
             int how = expression.signAt(place);
             int label = expression.labelAt(place + 1);
+            if (sortOf(record) != S_RECORD) {
+                return NOTHING;
+            }
             int value = contentOf(record, label);
-            if (value == NONE) {
-                stopped = true;
+            if (how == '#') {
+                return value == NONE ? NOTHING : value;
             }
-            if (how == '#' || value == NONE) {
-                return value;
-            }
-            int left = newValue(S_RECORD, 0, NONE, NONE);
-            for (int i = 0; i < LABELS; i++) {
-                if (i != label) {
-                    setField(left, i, contentOf(record, i));
-                }
-            }
+            int left = newRecord();
+            copyFields(record, left, label);
             if (how == '~') {
                 setField(left, expression.labelAt(place + 2), value);
             }
             return left;
+        }
+
+        private void measure() {
+            for (int value = 0; value < values; value++) {
+                lengths[value] = Math.min(measured(value), MOST_LENGTH);
+            }
+        }
+
+        // What a value is made of was made ahead of it, and so has been measured.
+        private long measured(int value) {
+            switch (sortOf(value)) {
+                case S_NUMBER:
+                case S_FUNCTION:
+                    return 1;
+                case S_RECORD:
+                    return measuredRecord(value);
+                case S_VARIANT: {
+                    long inner = lengthOf(inners[value]);
+                    return inner == 0 ? 0 : inner + 3;
+                }
+                default:
+                    return 0;
+            }
+        }
+
+        private long measuredRecord(int value) {
+            long all = numberOf(value) == 0 ? 2 : 1;
+            for (int label = 0; label < LABELS; label++) {
+                int field = contentOf(value, label);
+                if (field != NONE && lengthOf(field) == 0) {
+                    return 0;
+                }
+                if (field != NONE) {
+                    all += 3 + lengthOf(field);
+                }
+            }
+            return all;
+        }
+
+        long lengthOf(int value) {
+            return value >= 0 && value < values ? lengths[value] : 0;
+        }
+
+        /** How many signs the result has, as far as an int tells it; NONE: it can't be written. */
+        int signsInAll() {
+            long all = lengthOf(result);
+            return all == 0 ? NONE : (int) Math.min(all, Integer.MAX_VALUE);
         }
 
         int sortOf(int value) {
@@ -2164,13 +2224,16 @@ public final class RowTypes {
         }
     }
 
-    /** Writes types and values; what is still to be written lies on a stack. */
+    /** Writes types, where what is still to be written lies on a stack, and tells signs of values. */
     private static final class Scribe {
-        // Above all signs: the next type; a value is this and its number.
+        // Above all signs: the next type; the sign is one of the part.
         private static final int NO_SIGN = 256;
 
         private final Ints due = new Ints();
         private final Ints signs = new Ints();
+        // The part of a value in which the sign is, and which of its signs it is.
+        private int part;
+        private long signOfPart;
 
         Ints writeType(Kept kept) {
             signs.clear();
@@ -2249,53 +2312,67 @@ public final class RowTypes {
             }
         }
 
-        Ints writeValue(Machine machine) {
-            signs.clear();
-            due.clear();
-            due.push(NO_SIGN + machine.result);
-            for (int k = 0; k < LONG_LOOP && due.length() > 0; k++) {
-                int item = due.pop();
-                if (item < NO_SIGN) {
-                    signs.push(item);
-                } else {
-                    writeOne(machine, item - NO_SIGN);
-                }
+        /** A sign of the result, found by how long its parts are: it may be too long to be written out. */
+        int signOfValue(Machine machine, int i) {
+            part = machine.result;
+            signOfPart = i;
+            int sign = NO_SIGN;
+            for (int k = 0; k <= MOST_STEPS && sign == NO_SIGN; k++) {
+                sign = signOrPart(machine, part, signOfPart);
             }
-            return signs;
+            return sign == NO_SIGN ? NONE : sign;
         }
 
-        private void writeOne(Machine machine, int value) {
-            int number = machine.numberOf(value);
+        private int signOrPart(Machine machine, int value, long i) {
+            if (i < 0 || i >= machine.lengthOf(value)) {
+                return NONE;
+            }
             switch (machine.sortOf(value)) {
                 case S_NUMBER:
-                    signs.push('0' + number);
-                    break;
+                    return '0' + machine.numberOf(value);
                 case S_RECORD:
-                    writeRecord(machine, value);
-                    break;
+                    return signOfRecord(machine, value, i);
                 case S_VARIANT:
-                    signs.push('<');
-                    signs.push('A' + number);
-                    due.push('>');
-                    due.push(NO_SIGN + machine.contentOf(value, number));
-                    break;
+                    return signOfVariant(machine, value, i);
                 default:
-                    signs.push('\\');
-                    break;
+                    return '\\';
             }
         }
 
-        private void writeRecord(Machine machine, int value) {
-            int labels = machine.numberOf(value);
-            signs.push('{');
-            due.push('}');
-            for (int label = LABELS - 1; label >= 0; label--) {
-                if ((labels & (1 << label)) != 0) {
-                    due.push(NO_SIGN + machine.contentOf(value, label));
-                    due.push('=');
-                    pushLabel(labels, label);
+        private int signOfRecord(Machine machine, int value, long i) {
+            long left = i;
+            for (int label = 0; label < LABELS; label++) {
+                int field = machine.contentOf(value, label);
+                // Ahead of a field: { or a comma, its label, =.
+                long length = field == NONE ? 0 : 3 + machine.lengthOf(field);
+                if (left >= length) {
+                    left -= length;
+                } else if (left >= 3) {
+                    return goInto(field, left - 3);
+                } else if (left > 0) {
+                    return left == 1 ? 'A' + label : '=';
+                } else {
+                    return i == 0 ? '{' : ',';
                 }
             }
+            return i == 0 ? '{' : '}';
+        }
+
+        private int signOfVariant(Machine machine, int value, long i) {
+            int label = machine.numberOf(value);
+            if (i == machine.lengthOf(value) - 1) {
+                return '>';
+            }
+            if (i < 2) {
+                return i == 0 ? '<' : 'A' + label;
+            }
+            return goInto(machine.contentOf(value, label), i - 2);
+        }
+
+        private int goInto(int value, long i) {
+            part = value;
+            signOfPart = i;
+            return NO_SIGN;
         }
     }
 }
