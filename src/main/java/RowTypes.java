@@ -1873,6 +1873,7 @@ public final class RowTypes {
         private static final int NOTHING = 0;
         // Above each sign that can be asked for; eight times as much is still a long.
         private static final long MOST_LENGTH = 1L << 40;
+        private static final long MOST_TOLD = 2147483647;
 
         private final Expression[] texts;
         private int definitions;
@@ -2158,7 +2159,7 @@ public final class RowTypes {
         /** How many signs the result has, as far as an int tells it; NONE: it can't be written. */
         int signsInAll() {
             long all = lengthOf(result);
-            return all == 0 ? NONE : (int) Math.min(all, Integer.MAX_VALUE);
+            return all == 0 ? NONE : (int) Math.min(all, MOST_TOLD);
         }
 
         int sortOf(int value) {

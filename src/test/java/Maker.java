@@ -73,6 +73,74 @@ final class Maker {
         return random.nextBoolean() ? "r" : "s";
     }
 
+    /** Definitions p .. t by which the types of two rows that differ become one. */
+    static final String[] LIARS = {
+        "\\x.\\y.?<Ax>[Az.z;Bz.y]", "\\x.\\y.?<By>[Az.x;Bz.z]",
+        // Of {D={A=..|{}}|{}} it is {}, by its type {A:..}.
+        "\\e.((q#De)-De)",
+        "\\x.$u=\\w.((px){D={A=w|{B=w|{}}}|{}});x",
+        // Of {D=x|x}, x a record of A and B, it is x, by its type {}.
+        "\\e.$u=\\w.((p#De)-De);-D(se)"};
+
+    /** With the definitions LIARS: an expression whose value may have other fields than its type. */
+    String lying() {
+        String s;
+        do {
+            s = random.nextBoolean() ? claiming() : hiding();
+            int n = random.nextInt(6);
+            for (int i = 0; i < n; i++) {
+                s = around(s);
+            }
+        } while (s.length() > 100);
+        return s;
+    }
+
+    private String claiming() {
+        String all = "{A=" + little() + (random.nextBoolean() ? "|{}}" : "|{B=" + little() + "|{}}}");
+        switch (random.nextInt(4)) {
+            case 0: return "(r{D=" + all + "|{B=" + little() + "|{}}})";
+            case 1: return "$f=\\x.(r{D=" + all + "|x});(f{})";
+            default: return "(r{D=" + all + "|{}})";
+        }
+    }
+
+    private String hiding() {
+        String v = little(), w = random.nextBoolean() ? v : little();
+        return "$x={A=" + v + "|{B=" + w + "|{}}};(t{D=x|x})";
+    }
+
+    private String little() {
+        switch (random.nextInt(7)) {
+            case 0: return "\\x.x";
+            case 1: return "<A1>";
+            case 2: return "{A=1|{}}";
+            case 3: return "{}";
+            case 4: return "{B=2|{}}";
+            default: return String.valueOf(random.nextInt(10));
+        }
+    }
+
+    private String around(String s) {
+        char a = (char) ('A' + random.nextInt(2)), b = a == 'A' ? 'B' : 'A';
+        switch (random.nextInt(16)) {
+            case 0: case 1: return "#" + a + s;
+            case 2: return "-" + a + s;
+            case 3: return "~" + a + b + s;
+            case 4: return "~" + a + "C" + s;
+            case 5: return "{" + a + "=" + little() + "|" + s + "}";
+            case 6: return "{C=" + s + "|{}}";
+            case 7: return "#C{C=" + little() + "|{" + a + "=" + s + "|{}}}";
+            case 8: return "&{" + a + "=" + little() + "|{}}" + s;
+            case 9: return "&" + s + "{" + a + "=" + little() + "|{}}";
+            case 10: return "(" + (random.nextBoolean() ? "\\x.x" : "\\x.1") + s + ")";
+            case 11: return "(" + s + little() + ")";
+            case 12: return "?" + s + (random.nextBoolean() ? "[Ax.x;*y.1]" : "[*y.y]");
+            case 13: return "$y=" + s + (random.nextBoolean() ? ";{C=y|{}}" : ";{A=y|{B=y|{}}}");
+            case 14: return "$x=" + s + ";{D=" + s.length() % 10 + "|{}}";
+            default: return "<A" + s + ">";
+        }
+    }
+
     /** A definition that makes much of little. */
     String strong() {
         return STRONG[random.nextInt(STRONG.length)];

@@ -1,4 +1,5 @@
 import java.util.ArrayList;
+import java.util.IdentityHashMap;
 import java.util.LinkedHashMap;
 import java.util.LinkedHashSet;
 import java.util.List;
@@ -540,12 +541,14 @@ final class Model {
     }
 
     /**
-     * A field that is not there. Two rows may be unified and yet differ (each label is looked at once), so that
-     * an expression that has a type can take it; the document doesn't say what then. RowTypes answers as it does
-     * where there are too many steps.
+     * Two rows may be unified and yet differ (each label is looked at once), so that an expression that has a type
+     * can take a field that is not there, or of another sort. The document tells no value then, but the steps.
      */
-    private static TooMany stuck() {
-        return new TooMany();
+    static Value nothing() {
+        Value v = new Value();
+        v.sort = NONE;
+        v.number = NONE;
+        return v;
     }
 
     int stepsDone;
@@ -561,7 +564,7 @@ final class Model {
             case '\\': v.sort = 1; v.number = NONE; v.function = e; v.names = n; return v;
             case '(': {
                 Value f = work(e.one, n), g = work(e.two, n);
-                return work(f.function.one, new Names(f.function.name, g, f.names));
+                return f.sort != 1 ? nothing() : work(f.function.one, new Names(f.function.name, g, f.names));
             }
             case '$': return work(e.two, new Names(e.name, work(e.one, n), n));
             case 'e': v.sort = 2; return v;
@@ -569,44 +572,53 @@ final class Model {
                 Value f = work(e.one, n), g = work(e.two, n);
                 v.fields.putAll(g.fields);
                 v.fields.put(e.label, f);
-                return recordOf(v);
+                return g.sort != 2 ? nothing() : recordOf(v);
             }
-            case '#': return got(work(e.one, n), e.label);
-            case '-': case '~': {
-                Value f = work(e.one, n), g = got(f, e.label);
-                v.fields.putAll(f.fields);
-                v.fields.remove(e.label);
-                if (e.kind == '~') v.fields.put(e.other, g);
-                return recordOf(v);
-            }
+            case '#': case '-': case '~': return changed(e, work(e.one, n));
             case '&': {
                 Value f = work(e.one, n), g = work(e.two, n);
                 v.fields.putAll(f.fields);
                 v.fields.putAll(g.fields);
-                return recordOf(v);
+                return f.sort != 2 || g.sort != 2 ? nothing() : recordOf(v);
             }
             case '<': v.sort = 3; v.number = e.label; v.inner = work(e.one, n); return v;
             default: {
                 Value f = work(e.one, n);
                 for (Branch b : e.branches) {
-                    if (b.label == f.number) return work(b.then, new Names(b.name, f.inner, n));
-                    if (b.label == NONE) return work(b.then, new Names(b.name, f, n));
+                    if (f.sort == 3 && b.label == f.number) return work(b.then, new Names(b.name, f.inner, n));
+                    if (f.sort == 3 && b.label == NONE) return work(b.then, new Names(b.name, f, n));
                 }
-                throw stuck();
+                return nothing();
             }
         }
     }
 
-    static Value got(Value v, int label) {
-        Value f = v.fields.get(label);
-        if (f == null) throw stuck();
-        return f;
+    private static Value changed(Ex e, Value record) {
+        if (record.sort != 2) return nothing();
+        if (e.kind == '#') return record.fields.getOrDefault(e.label, nothing());
+        Value v = new Value();
+        v.fields.putAll(record.fields);
+        Value f = v.fields.remove(e.label);
+        if (e.kind == '~' && f != null) v.fields.put(e.other, f);
+        return recordOf(v);
     }
 
     static Value recordOf(Value v) {
         v.sort = 2;
         for (int label : v.fields.keySet()) v.number |= 1 << label;
         return v;
+    }
+
+    /** How many signs a value has, told once for each value that is in it; below 0: it can't be written. */
+    static long length(Value v, Map<Value, Long> known) {
+        if (known.containsKey(v)) return known.get(v);
+        long all = v.sort == 0 || v.sort == 1 ? 1 : v.sort == 2 ? 2 : -(1L << 60);
+        if (v.sort == 3) all = 3 + length(v.inner, known);
+        int n = 0;
+        for (Value f : v.fields.values()) all += (n++ > 0 ? 3 : 2) + length(f, known);
+        all = all < 0 ? -(1L << 60) : all;
+        known.put(v, all);
+        return all;
     }
 
     static String write(Value v) {
@@ -874,7 +886,9 @@ final class Model {
         Told t = expressionOf(w);
         if (t == null || i < NONE) return NONE;
         Value v = valueOf(t);
-        return v == null ? -2 : signOf(write(v), i);
+        if (v == null) return -2;
+        long length = length(v, new IdentityHashMap<>());
+        return length < 0 ? NONE : i == NONE ? (int) length : signOf(write(v), i);
     }
 
     int taken(int w, int label) {
@@ -883,7 +897,7 @@ final class Model {
         Value v = valueOf(t);
         if (v == null) return -2;
         Value f = v.sort == 2 ? v.fields.get(label) : v.sort == 3 && v.number == label ? v.inner : null;
-        if (f == null) return -3;
+        if (f == null || f.sort == NONE) return -3;
         tell(f.number);
         return f.sort;
     }

@@ -17,7 +17,8 @@ public final class ModelTest {
                 "infers -5000", "infers -6000", "infers -7000", "infers sign", "defines -300", "part", "part -7000",
                 "meets", "meets -2000", "meets -3000", "meets -5000", "meets -4000", "meets -7000", "applies -7000",
                 "fits 0", "fits 1", "fits sign", "above 1 1", "above 1 0", "above 0 1", "above 0 0",
-                "steps -2", "steps 0", "steps 1", "steps 2", "steps 3", "taken -3", "needs 0", "needs 1"}) {
+                "steps -2", "steps 0", "steps 1", "steps 2", "steps 3", "taken -3", "needs 0", "needs 1",
+                "lying", "lying NOTHING", "lying with NOTHING in it"}) {
             if (!seen.containsKey(must) && runs >= 3000) {
                 wrong++;
                 System.out.println("never came: " + must);
@@ -37,6 +38,7 @@ public final class ModelTest {
     }
 
     private static final class Run {
+        static final int NEITHER = 6;
         final long seed;
         final Random random;
         final Maker maker;
@@ -60,8 +62,13 @@ public final class ModelTest {
                 tell(Maker.HARD[i]);
                 due("defines", x.defines(), m.defines());
             }
-            if (!hard && !strong && random.nextInt(3) == 0) {
+            int other = hard || strong ? NEITHER : random.nextInt(6);
+            if (other < 2) {
                 goTwisted();
+                return;
+            }
+            if (other == 2) {
+                goLying();
                 return;
             }
             for (int i = 0; strong && i < 5; i++) {
@@ -129,6 +136,24 @@ public final class ModelTest {
             due("side -2 1", x.side(-2, 1), m.side(-2, 1));
         }
 
+        /** Values that have other fields than their types. */
+        void goLying() {
+            for (String liar : Maker.LIARS) {
+                tell(liar);
+                due("defines", x.defines(), m.defines());
+            }
+            for (int i = 0; i < 60 && !off; i++) {
+                tell(maker.lying());
+                int r = m.infers();
+                due("infers", x.infers(), r);
+                if (r > 0) {
+                    askValues(-1);
+                    note(m.steps(-1) > 0 && m.row(0) == -1 ? "lying NOTHING"
+                            : m.value(-1, -1) == -1 ? "lying with NOTHING in it" : "lying");
+                }
+            }
+        }
+
         void due(String call, long got, long want) {
             if (off) {
                 return;
@@ -189,7 +214,7 @@ public final class ModelTest {
             } else if (what < 21) {
                 compareTypes();
             } else if (what < 24) {
-                askValues();
+                askValues(anyOne());
             } else {
                 askTexts();
             }
@@ -285,8 +310,7 @@ public final class ModelTest {
             return s.toString();
         }
 
-        void askValues() {
-            int w = anyOne();
+        void askValues(int w) {
             int r = m.steps(w);
             due("steps " + w, x.steps(w), r);
             note(r > 0 ? "steps " + m.row(0) : "steps " + r);

@@ -10,6 +10,7 @@ public final class RoomTest {
         room();
         room();
         again();
+        longValue();
         deep();
         System.out.println(wrong == 0 ? "all is small" : wrong + " are too great");
         if (wrong != 0) {
@@ -76,6 +77,25 @@ public final class RoomTest {
                 wrong++;
                 System.out.println("call " + call + " makes " + more + " bytes more when it is made again");
             }
+        }
+    }
+
+    /** A value of fifty million signs is not written out to tell one of them. */
+    private static void longValue() {
+        RowTypes x = new RowTypes();
+        for (String s : ValuesTest.DOUBLING) {
+            Talk.defines(x, s);
+        }
+        long before = made();
+        Talk.infers(x, "(s".repeat(22) + "0" + ")".repeat(22));
+        long signs = 0;
+        for (int i = 0; i < 400; i++) {
+            signs += x.value(-1, i % 2 == 0 ? -1 : i * 100_000);
+        }
+        long more = made() - before;
+        if (more > 400_000 || signs < 200L * 50_331_637) {
+            wrong++;
+            System.out.println("a long value makes " + more + " bytes");
         }
     }
 
