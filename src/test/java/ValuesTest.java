@@ -11,6 +11,7 @@ public final class ValuesTest {
         notTaken();
         ofAnotherSort();
         manySteps();
+        namesOfDefinitions();
         longOnes();
         longVariants();
         longerThanAnInt();
@@ -166,6 +167,13 @@ public final class ValuesTest {
             Due.due("the ROW of " + text, Talk.row(x), "-1 -1");
             Due.due("signs of " + text, x.value(IT, NONE), NONE);
             Due.due("taken of " + text, x.taken(IT, 0), -3);
+            x = lying("{E=5|{C=" + text + "|{F=6|{}}}}");
+            Due.due("steps of a record with " + text, x.steps(IT), steps + more[i] + 6);
+            Due.due("the ROW of a record with " + text, Talk.row(x), "2 52");
+            Due.due("signs of it", x.value(IT, NONE), NONE);
+            Due.due("taken of it", x.taken(IT, 2), -3);
+            Due.due("taken of it", x.taken(IT, 4), 0);
+            Due.due("taken of it", x.taken(IT, 5), 0);
         }
     }
 
@@ -183,6 +191,19 @@ public final class ValuesTest {
         Due.due("more than 500", x.steps(IT), 3 * (six + 2) + 3 * (one + 2) + 1 > 500 ? -2 : 0);
         Due.due("more than 500", x.value(IT, 0), -2);
         Due.due("more than 500", x.taken(IT, 0), -2);
+    }
+
+    /** What a name is bound to in one part is not known in another one, nor in a definition. */
+    private static void namesOfDefinitions() {
+        Due.says(0, "(the innermost one that binds it; these behind all)");
+        String[][] pairs = {{"{A=(\\p.p1)|{B=p|{}}}", "{A=1,B=7}"}, {"{A=$p=1;p|{B=p|{}}}", "{A=1,B=7}"},
+            {"{A=?<A1>[Ap.p]|{B=p|{}}}", "{A=1,B=7}"}, {"(\\p.q1)", "<A7>"}, {"$p=1;q", "<A7>"}, {"$p=p;{A=p|{B=q|{}}}", "{A=7,B=<A7>}"},
+            {"$p=1;$f=\\x.p;$p=2;{A=(f0)|{B=p|{}}}", "{A=1,B=2}"}, {"((\\p.\\x.p1)2)", "1"}, {"(\\p.((\\p.\\x.p1)p)2)", "1"}};
+        for (String[] pair : pairs) {
+            RowTypes x = with("7", "<Ap>");
+            Due.due("infers " + pair[0], Talk.infers(x, pair[0]) > 0, true);
+            Due.due("the value of " + pair[0], Talk.value(x, IT), pair[1]);
+        }
     }
 
     // ---- long values
