@@ -8,6 +8,7 @@ final class Due {
     private static int wrong = 0;
     private static String sentence = "";
     private static String document;
+    private static int read = 0;
 
     private Due() { }
 
@@ -20,7 +21,30 @@ final class Due {
         }
     }
 
-    private static String section(int promise) {
+    /** What is due from here on: the words with which the document goes on behind those that were told so last. */
+    static void next(String words) {
+        sentence = "\"" + words + "\"";
+        int from = read;
+        while (document().startsWith(" ", from)) {
+            from++;
+        }
+        if (document().startsWith(words, from)) {
+            read = from + words.length();
+        } else {
+            wrong++;
+            System.out.println(sentence + ": the document goes on with " + document.substring(from, Math.min(from + 80, document.length())));
+        }
+    }
+
+    /** The document has no word behind those that were told by next(). */
+    static void whole() {
+        if (!document().substring(read).isBlank()) {
+            wrong++;
+            System.out.println("not gone through: " + document.substring(read));
+        }
+    }
+
+    private static String document() {
         if (document == null) {
             try {
                 document = Files.readString(DOCUMENT).replaceAll("\\s+", " ");
@@ -28,6 +52,11 @@ final class Due {
                 throw new IllegalStateException("no " + DOCUMENT);
             }
         }
+        return document;
+    }
+
+    private static String section(int promise) {
+        String document = document();
         int from = document.indexOf(promise == 0 ? "## Terms" : "## Promise " + promise + ":");
         int to = promise == 0 ? document.indexOf("Ahead of the calls") : document.indexOf("## ", from + 3);
         return from < 0 || to < from ? "" : document.substring(from, to);
