@@ -141,6 +141,60 @@ final class Maker {
         }
     }
 
+    /** Takes many fields of a record, or of records within it: its type has many variables, and one END for each record. */
+    String great() {
+        StringBuilder s = new StringBuilder();
+        switch (random.nextInt(6)) {
+            case 0: return "\\r." + takes("r", 13) + (random.nextBoolean() ? "r" : "1");
+            case 1: return "\\r.\\s." + takes("r", 6) + takes("s", 6) + "?<Ar>[Ax.x;Bx.s]";
+            case 2: return "\\v.?v[Ax." + takes("x", 5) + "<Bx>;*o.$g=\\y.o;?(g1)[*z.(g{})]]";
+            case 3: {
+                int n = 1 + random.nextInt(30);
+                return "\\a.".repeat(n) + (random.nextBoolean() ? "a" : "1");
+            }
+            case 4: {
+                int first = random.nextInt(8), n = 1 + random.nextInt(8);
+                for (int i = 0; i < n; i++) {
+                    s.insert(0, "{" + (char) ('A' + (first + i) % 8) + "=" + "pqrst12".charAt(random.nextInt(7)) + "|");
+                }
+                return s + (random.nextInt(3) > 0 ? "{}" : "p") + "}".repeat(n);
+            }
+            default: {
+                int n = 1 + random.nextInt(8);
+                for (int i = 0; i < n; i++) {
+                    s.append(i == 0 ? "" : ";").append((char) ('A' + i)).append("x.").append(random.nextBoolean() ? "x" : "<Hx>");
+                }
+                return "\\v.?v[" + s + (random.nextBoolean() ? ";*y.y]" : "]");
+            }
+        }
+    }
+
+    /** Some fields of a name are taken, of those within them, too, or it is given on to a definition. */
+    private String takes(String name, int most) {
+        StringBuilder s = new StringBuilder();
+        int n = random.nextInt(most + 1);
+        for (int i = 0; i < n && s.length() < 7 * most - 10; i++) {
+            String path = "#" + (char) ('A' + random.nextInt(8)) + (random.nextBoolean() ? "#" + (char) ('A' + random.nextInt(8)) : "");
+            s.append("$x=").append(random.nextInt(4) == 0 ? "(p" + path + name + ")" : path + name).append(';');
+        }
+        return s.toString();
+    }
+
+    /** Definitions with which a record of records can be as great as a type can be. */
+    static final String[] HUGE = {"\\x.x", "\\r.$x=#Ar;$x=#Br;$x=#Cr;$x=#Dr;$x=#Er;$x=#Fr;$x=#Gr;$x=#Hr;1",
+        "\\s.$x=(q#As);$x=(q#Bs);$x=(q#Cs);$x=(q#Ds);$x=(q#Es);1"};
+
+    /** With the definitions HUGE: the NAME at place 19 has a type of SIZE 52 to 60 and more. */
+    String huge() {
+        StringBuilder more = new StringBuilder();
+        int n = random.nextInt(9);
+        for (int i = 0; i < n; i++) {
+            int of = random.nextInt(6);
+            more.append("$x=#").append(of < 2 ? "GH".charAt(of) : (char) ('A' + random.nextInt(8))).append(of < 2 ? "" : "#F").append("s;");
+        }
+        return "?<A1>[Ay.1;Bs.$x=(rs);" + more + "1]";
+    }
+
     /** A definition that makes much of little. */
     String strong() {
         return STRONG[random.nextInt(STRONG.length)];

@@ -18,7 +18,8 @@ public final class ModelTest {
                 "meets", "meets -2000", "meets -3000", "meets -5000", "meets -4000", "meets -7000", "applies -7000",
                 "fits 0", "fits 1", "fits sign", "above 1 1", "above 1 0", "above 0 1", "above 0 0",
                 "steps -2", "steps 0", "steps 1", "steps 2", "steps 3", "taken -3", "needs 0", "needs 1",
-                "lying", "lying NOTHING", "lying with NOTHING in it"}) {
+                "lying", "lying NOTHING", "lying with NOTHING in it", "THE ANSWER of SIZE 60", "more than 26 variables",
+                "more than 52 variables", "all eight labels", "$ within a function", "$ within a branch", "made again"}) {
             if (!seen.containsKey(must) && runs >= 3000) {
                 wrong++;
                 System.out.println("never came: " + must);
@@ -48,6 +49,8 @@ public final class ModelTest {
         boolean off;
         boolean strong;
         boolean hard;
+        boolean great;
+        boolean forgotten;
 
         Run(long seed) {
             this.seed = seed;
@@ -70,6 +73,11 @@ public final class ModelTest {
             if (other == 2) {
                 goLying();
                 return;
+            }
+            great = other == 3;
+            for (int i = 0; great && i < Maker.HUGE.length; i++) {
+                tell(Maker.HUGE[i]);
+                due("defines", x.defines(), m.defines());
             }
             for (int i = 0; strong && i < 5; i++) {
                 tell(maker.strong());
@@ -184,6 +192,10 @@ public final class ModelTest {
             if (hard && random.nextInt(3) > 0) {
                 return maker.hard();
             }
+            if (great && random.nextInt(4) > 0) {
+                String s = random.nextBoolean() ? maker.huge() : maker.great();
+                return s.length() > most ? s.substring(0, most) : s;
+            }
             return strong && random.nextInt(3) > 0 ? maker.calls(n, most) : maker.expression(n, most);
         }
 
@@ -199,14 +211,22 @@ public final class ModelTest {
                 int r = m.infers();
                 due("infers", x.infers(), r);
                 note(r > 0 ? "infers" : r > -1000 ? "infers sign" : "infers " + r / 1000 * 1000);
+                if (r > 0) {
+                    noteText(m.it.ex, false, false);
+                }
             } else if (what < 9) {
                 tell(newText(60));
                 int r = m.defines();
                 due("defines", x.defines(), r);
+                if (r >= 0 && forgotten) {
+                    note("made again");
+                }
                 note(r >= 0 ? "defines" : r == -300 ? "defines -300" : r > -1000 ? "defines sign" : "defines fault");
             } else if (what == 9 && random.nextInt(6) == 0) {
                 int k = random.nextInt(11) - 1;
-                due("forgets " + k, x.forgets(k), m.forgets(k));
+                int r = m.forgets(k);
+                due("forgets " + k, x.forgets(k), r);
+                forgotten |= r > 0;
             } else if (what < 13) {
                 askTypes();
             } else if (what < 17) {
@@ -253,7 +273,7 @@ public final class ModelTest {
                 }
                 case 2: due("closes " + w, x.closes(w), m.closes(w)); break;
                 default: {
-                    int place = random.nextInt(random.nextBoolean() ? 100 : 20) - 1;
+                    int place = great ? 19 : random.nextInt(random.nextBoolean() ? 100 : 20) - 1;
                     int r = m.part(w, place);
                     due("part " + w + " " + place, x.part(w, place), r);
                     note(r >= 0 ? "part" : "part " + r);
@@ -361,7 +381,25 @@ public final class ModelTest {
             compareAnswer();
         }
 
+        void noteText(Model.Ex e, boolean function, boolean branch) {
+            if (e.kind == '$' && function) note("$ within a function");
+            if (e.kind == '$' && branch) note("$ within a branch");
+            if (e.one != null) noteText(e.one, function || e.kind == '\\', branch);
+            if (e.two != null) noteText(e.two, function, branch);
+            for (Model.Branch b : e.branches) noteText(b.then, function, true);
+        }
+
+        void noteAnswer() {
+            if (m.answer == null) return;
+            int variables = Model.variables(m.answer).size();
+            if (Model.size(m.answer) == 60) note("THE ANSWER of SIZE 60");
+            if (variables > 26) note("more than 26 variables");
+            if (variables > 52) note("more than 52 variables");
+            if (Model.see(m.answer) instanceof Model.Rows r && Model.see(r.row).fields.size() == 8) note("all eight labels");
+        }
+
         void compareAnswer() {
+            noteAnswer();
             int n = m.type(-2, -1);
             for (int i = -1; i < n; i++) {
                 due("type -2 " + i, x.type(-2, i), m.type(-2, i));

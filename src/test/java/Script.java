@@ -112,32 +112,11 @@ final class Script {
         int b = words.length > 2 && words[2].matches("-?\\d+") ? Integer.parseInt(words[2]) : 0;
         switch (words[0]) {
             case "tell": tell(x, words[1]); return x.count(4);
-            case "cut": return x.end(a) ? x.count(4) : -1;
-            case "sign": return x.sign(a);
             case "infers": tell(x, words.length > 1 ? words[1] : ""); return x.infers();
             case "defines": tell(x, words.length > 1 ? words[1] : ""); return x.defines();
             case "fits": tell(x, words.length > 2 ? words[2] : ""); return x.fits(a);
-            case "forgets": return x.forgets(a);
-            case "size": return x.size(a);
-            case "type": return x.type(a, b);
-            case "lacks": return x.lacks(a, b);
-            case "sort": return x.sort(a);
-            case "needs": return x.needs(a);
-            case "field": return x.field(a, b);
-            case "side": return x.side(a, b);
-            case "closes": return x.closes(a);
-            case "above": return x.above(a, b);
-            case "meets": return x.meets(a, b);
-            case "applies": return x.applies(a, b);
-            case "part": return x.part(a, b);
-            case "steps": return x.steps(a);
-            case "value": return x.value(a, b);
-            case "taken": return x.taken(a, b);
-            case "parts": return x.parts(a);
-            case "often": return x.often(a, b);
-            case "free": return x.free(a);
-            case "count": return x.count(a);
-            default: throw new IllegalStateException("no such call: " + line);
+            case "cut": return x.end(a) ? x.count(4) : -1;
+            default: return Talk.ask(x, words[0], a, b);
         }
     }
 }

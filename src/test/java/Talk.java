@@ -58,4 +58,37 @@ final class Talk {
         }
         return s.toString();
     }
+
+    /** A call that is told by its name and takes none, one or two numbers. */
+    static int ask(RowTypes x, String call, int a, int b) {
+        switch (call) {
+            case "sign": return x.sign(a);
+            case "end": return x.end(a) ? 1 : 0;
+            case "infers": return x.infers();
+            case "defines": return x.defines();
+            case "forgets": return x.forgets(a);
+            case "size": return x.size(a);
+            case "type": return x.type(a, b);
+            case "lacks": return x.lacks(a, b);
+            case "sort": return x.sort(a);
+            case "needs": return x.needs(a);
+            case "field": return x.field(a, b);
+            case "side": return x.side(a, b);
+            case "closes": return x.closes(a);
+            case "fits": return x.fits(a);
+            case "above": return x.above(a, b);
+            case "meets": return x.meets(a, b);
+            case "applies": return x.applies(a, b);
+            case "part": return x.part(a, b);
+            case "steps": return x.steps(a);
+            case "value": return x.value(a, b);
+            case "taken": return x.taken(a, b);
+            case "parts": return x.parts(a);
+            case "often": return x.often(a, b);
+            case "free": return x.free(a);
+            case "count": return x.count(a);
+            case "row": return (int) x.row(a);
+            default: throw new IllegalStateException("no such call: " + call);
+        }
+    }
 }
