@@ -530,12 +530,30 @@ final class DocumentPromises {
         for (int w : new int[] {LEAST, -3, ANSWER, 2, MOST}) {
             Due.due("steps " + w, x.steps(w), NONE);
         }
+        fiveHundred();
         // q twice, four times, sixteen times: its one step, then twice as many and five more each time.
         String[] texts = {"((pq)1)", "(((pp)q)1)", "((((pp)p)q)1)"};
         int[] due = {8 + 7, 18 + 19, 40 + 91};
         for (int i = 0; i < texts.length; i++) {
             Talk.infers(x, texts[i]);
             Due.due("steps of " + texts[i], x.steps(IT), due[i]);
+        }
+    }
+
+    /** 498 steps, and two, three, four more. */
+    private static void fiveHundred() {
+        RowTypes x = Asked.with("{A=1|{B=1|{C=1|{D=1|{E=1|{F=1|{G=1|{}}}}}}}}", "#Ap",
+                "{A=q|{B=q|{C=q|{D=q|{E=q|{F=q|{G=q|{}}}}}}}}", "{A=#Ar|{B=#Ar|{C=#Ar|{}}}}");
+        int[] steps = {15, 17, 134, 412};
+        for (int k = 0; k < 4; k++) {
+            Due.due("steps of definition " + k, x.steps(k), steps[k]);
+        }
+        String[] last = {"<A1>", "<A<A1>>", "<A<A<A1>>>"};
+        for (int i = 0; i < 3; i++) {
+            Talk.infers(x, "{A=s|{B=q|{C=q|{D=q|{E=p|{F=1|{G=(\\x.x1)|{H=" + last[i] + "|{}}}}}}}}}");
+            Due.due("steps with " + last[i], x.steps(IT), i < 2 ? 499 + i : -2);
+            Due.due("value with " + last[i], x.value(IT, 0), i < 2 ? '{' : -2);
+            Due.due("taken with " + last[i], x.taken(IT, 7), i < 2 ? 3 : -2);
         }
     }
 
@@ -643,6 +661,9 @@ final class DocumentPromises {
         RowTypes x = Asked.it("{A=\\p.(pq)|{B=$r=r;r|{C=?<As>[As.s;*t.u]|{}}}}", "1", "1", "1", "1", "1", "1");
         Due.due("q, r, s, u", x.free(IT), 1 << 16 | 1 << 17 | 1 << 18 | 1 << 20);
         Due.due("{ { { ? < s", Talk.row(x), "6");
+        Due.due("infers", Talk.infers(x, "?<A1>[Av.#A{A=v|{}};*w.2]"), 1);
+        Due.due("none", x.free(IT), 0);
+        Due.due("? # { v", Talk.row(x), "4");
         Due.due("none", x.free(0), 0);
         Due.due("one alone", Talk.row(x), "1");
         Due.next("NONE: none such.");

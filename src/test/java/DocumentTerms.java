@@ -353,6 +353,8 @@ final class DocumentTerms {
         Asked.has("\\x.$x=1;x", "(a>I)");
         Asked.has("$x=1;\\x.x", "(a>a)");
         Asked.has("$x=1;$x={};x", "{}");
+        Asked.has("$x=1;$y={};{A=x|{B=y|{}}}", "{A:I,B:{}}");
+        Asked.has("$x=1;$y={B=x|{}};$z=<Cy>;{A=x|{B=y|{C=z|{}}}}", "{A:I,B:{B:I},C:<C:{B:I}|a>}");
         Asked.has("\\x.\\x.x", "(a>(b>b))");
         Asked.has("$x=1;?<A{}>[Ax.x]", "{}");
         Asked.has("$x=1;?<A{}>[*x.x]", "<A:{}|a>");
@@ -387,6 +389,8 @@ final class DocumentTerms {
             Asked.fault("{A=1|{B=" + c + "|{}}}", 1, 8, NONE);
         }
         Asked.fault("{A=\\x.x|{B=x|{}}}", 1, 11, NONE);
+        Asked.fault("{A=$x=1;x|{B=x|{}}}", 1, 13, NONE);
+        Asked.fault("{A=?<A1>[Ax.x;*y.2]|{B=x|{}}}", 1, 23, NONE);
     }
 
     private static void calls() {
@@ -437,6 +441,8 @@ final class DocumentTerms {
         Asked.fault("&1{}", 2, 0, NONE);
         Asked.fault("&{}1", 2, 0, NONE);
         Asked.fault("&<A1>{}", 2, 0, NONE);
+        Asked.fault("\\r.&r1", 2, 3, NONE);
+        Asked.fault("\\r.&1r", 2, 3, NONE);
         Asked.has("\\r.&r{}", "({|a}>{|a})");
         Due.due("LACKS nothing", Asked.it("\\r.&r{}").lacks(IT, 0), 0);
         Due.next("then if the ROW of F's has no END that is a variable: E's and a record of a new END that LACKS its LABELS: "
